@@ -9,6 +9,7 @@ public final class BoardTest {
         phases();
         overload();
         driven();
+        twentieth();
         tripsAllAtOnce();
         shedding();
         settings();
@@ -173,6 +174,18 @@ public final class BoardTest {
         Check.due("10: the phase", x.diesel(1, 6), 988);
     }
 
+    private static void twentieth() {
+        DroopBoard x = new DroopBoard();
+        x.build(1, 120, 120);
+        Check.closeAll(x, 0, 1);
+        x.speed(1, 4988);
+        x.pass(1);
+        Check.due("10: -6 is not below 120 by 20", x.diesel(1, 9), 0);
+        x.speed(1, 4986);
+        x.pass(1);
+        Check.due("10: -7 is", x.diesel(1, 9), 1);
+    }
+
     private static void tripsAllAtOnce() {
         DroopBoard x = new DroopBoard();
         Check.closeAll(x, 0, 1);
@@ -207,6 +220,9 @@ public final class BoardTest {
         x.feeder(1, 1);
         x.pass(1);
         Check.due("10: sheds of feeder 1", x.line(1, 2), 2);
+        x.load(3, 1);
+        x.pass(1);
+        Check.due("10: a lack of 1 sheds a load of 1", x.line(3, 1), 0);
     }
 
     private static void settings() {

@@ -6,6 +6,7 @@ public final class UndoTest {
         undo();
         undoOfSix();
         undoAll();
+        undoOfDrivenAndShed();
         Check.end("UndoTest");
     }
 
@@ -97,6 +98,28 @@ public final class UndoTest {
         }
         x.undo();
         Check.due("18: the load", x.line(0, 0), 18);
+    }
+
+    private static void undoOfDrivenAndShed() {
+        DroopBoard x = new DroopBoard();
+        x.set(1, 9);
+        Check.closeAll(x, 0, 1);
+        x.speed(1, 4960);
+        x.pass(3);
+        x.open(1);
+        x.undo();
+        Check.due("18: driven", x.diesel(1, 9), 3);
+        x.load(2, 300);
+        x.load(3, 300);
+        x.open(1);
+        x.pass(1);
+        Check.due("18: shed", x.line(3, 2), 1);
+        x.keep();
+        x.undo();
+        Check.due("18: not shed", x.line(3, 2), 0);
+        Check.due("18: on", x.line(3, 1), 1);
+        x.goBack();
+        Check.due("18: shed, in the snapshot", x.line(3, 2), 1);
     }
 
     /** Whatever a tick counts is restored too. */

@@ -10,6 +10,7 @@ public final class WouldBeTest {
         loadShare();
         meanPower();
         digest();
+        digestOfShares();
         Check.end("WouldBeTest");
     }
 
@@ -109,6 +110,16 @@ public final class WouldBeTest {
         // 101 * 300 / 500 is 60.6, rounded to 60
         x.load(0, 101);
         Check.due("25: a share that is rounded", x.fairSpeed(1), lowestFair(x, 1, 60));
+        x.speed(0, 5300);
+        DroopBoard y = new DroopBoard();
+        y.build(0, 500, 100);
+        y.build(1, 100, 200);
+        Check.closeAll(y, 0, 1);
+        y.speed(0, 5300);
+        y.load(0, 10);
+        Check.due("25: its power with 5300", y.ifSpeed(1, 5300, 1), 1);
+        Check.due("25: its power with 5299", y.ifSpeed(1, 5299, 1), 0);
+        Check.due("25: the greatest speed for 10 * 100 / 600", y.fairSpeed(1), 5300);
         long before = x.digest();
         x.fairSpeed(1);
         Check.due("25: nothing is changed", x.digest(), before);
@@ -200,5 +211,38 @@ public final class WouldBeTest {
         Check.type(x, "s0=5!");
         Check.due("29: digest()", x.digest(), DigestOf.of(x, true, "s0=5!"));
         Check.due("29: nothing is changed", x.digest(), DigestOf.of(x, true, "s0=5!"));
+    }
+
+    /** The bits of shares and means from small to great ones. */
+    private static void digestOfShares() {
+        DroopBoard x = new DroopBoard();
+        x.build(0, 100, 100);
+        x.set(0, 9);
+        Check.closeAll(x, 0);
+        x.load(0, 1);
+        Check.due("29: a share of 0.01", x.digest(), DigestOf.of(x, false, ""));
+        x.pass(1);
+        x.load(0, 0);
+        for (int i = 0; i < 20; i++) {
+            Check.due("29: a mean below 1", x.digest(), DigestOf.of(x, false, ""));
+            x.pass(99);
+        }
+        for (int feeder = 0; feeder < 4; feeder++) {
+            x.load(feeder, 10 + 95 * feeder);
+            Check.due("29: a share from 0 to 12", x.digest(), DigestOf.of(x, false, ""));
+        }
+        for (int i = 0; i < 4; i++) {
+            x.load(0, 80 * i);
+            x.pass(2);
+            Check.due("29: a mean", x.digest(), DigestOf.of(x, false, ""));
+        }
+        DroopBoard y = new DroopBoard();
+        y.build(0, 500, 100);
+        Check.closeAll(y, 0);
+        for (int feeder = 0; feeder < 4; feeder++) {
+            y.load(feeder, 300);
+            y.pass(1);
+            Check.due("29: a mean up to 750", y.digest(), DigestOf.of(y, false, ""));
+        }
     }
 }
