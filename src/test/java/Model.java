@@ -62,13 +62,13 @@ final class Model {
         return alive(s) ? load : 0;
     }
 
-    private static int[] given(int[] s, int frequency) {
-        int[] given = new int[3];
-        for (int set = 0; set < 3; set++) {
-            int at = 13 * set;
-            given[set] = s[at + CLOSED] * ((s[at + SPEED] - frequency) * s[at + RATING] / s[at + DROOP]);
-        }
-        return given;
+    private static int given(int[] s, int set, int frequency) {
+        int at = 13 * set;
+        return s[at + CLOSED] * ((s[at + SPEED] - frequency) * s[at + RATING] / s[at + DROOP]);
+    }
+
+    private static int given(int[] s, int frequency) {
+        return given(s, 0, frequency) + given(s, 1, frequency) + given(s, 2, frequency);
     }
 
     private static int sum(int[] numbers) {
@@ -79,8 +79,9 @@ final class Model {
         if (!alive(s)) {
             return 0;
         }
+        int load = load(s);
         for (int frequency = 5300; frequency >= 4700; frequency--) {
-            if (sum(given(s, frequency)) >= load(s)) {
+            if (given(s, frequency) >= load) {
                 return frequency;
             }
         }
@@ -88,7 +89,11 @@ final class Model {
     }
 
     private static int[] powers(int[] s) {
-        int[] powers = given(s, frequency(s));
+        return powers(s, frequency(s));
+    }
+
+    private static int[] powers(int[] s, int frequency) {
+        int[] powers = {given(s, 0, frequency), given(s, 1, frequency), given(s, 2, frequency)};
         int more = sum(powers) - load(s);
         for (int set = 0; set < 3 && more > 0; set++) {
             if (s[13 * set + CLOSED] == 1) {
@@ -99,9 +104,12 @@ final class Model {
         return powers;
     }
 
+    private static int lack(int[] s, int[] powers) {
+        return sum(powers) < load(s) ? load(s) - sum(powers) : 0;
+    }
+
     private static int lack(int[] s) {
-        int powers = sum(powers(s));
-        return powers < load(s) ? load(s) - powers : 0;
+        return lack(s, powers(s));
     }
 
     private static int lamps(int[] s, int set) {
@@ -136,8 +144,8 @@ final class Model {
 
     private static int tick(int[] s) {
         int frequency = frequency(s);
-        int[] powers = powers(s);
-        int lack = lack(s);
+        int[] powers = powers(s, frequency);
+        int lack = lack(s, powers);
         boolean alive = alive(s);
         s[BOARD_ENERGY] += load(s) - lack;
         for (int set = 0; set < 3; set++) {
@@ -430,10 +438,13 @@ final class Model {
             return -1;
         }
         int share = load(state) * state[13 * set + RATING] / ratings();
-        int best = 5300;
+        int best = -1;
+        int least = Integer.MAX_VALUE;
         for (int speed = 5300; speed >= 4700; speed--) {
-            if (Math.abs(ifSpeed(set, speed, 1) - share) <= Math.abs(ifSpeed(set, best, 1) - share)) {
+            int difference = Math.abs(ifSpeed(set, speed, 1) - share);
+            if (difference <= least) {
                 best = speed;
+                least = difference;
             }
         }
         return best;
@@ -456,8 +467,38 @@ final class Model {
         return state[TICKS] > 0 ? (float) state[BOARD_ENERGY] / state[TICKS] : 0.0f;
     }
 
-    boolean hasSnapshot() {
-        return snapshot != null;
+    long digest() {
+        long hash = 3701;
+        for (int what = 0; what <= 11; what++) {
+            hash = 31 * hash + count(what);
+        }
+        for (int setting = 0; setting <= 3; setting++) {
+            hash = 31 * hash + setting(setting);
+        }
+        for (int set = 0; set <= 2; set++) {
+            for (int what = 0; what <= 12; what++) {
+                hash = 31 * hash + diesel(set, what);
+            }
+            for (int what = 0; what <= 2; what++) {
+                hash = 31 * hash + ifSpeed(set, 5050, what);
+            }
+            hash = 31 * hash + closeIn(set);
+            hash = 31 * hash + fairSpeed(set);
+        }
+        for (int feeder = 0; feeder <= 3; feeder++) {
+            for (int what = 0; what <= 2; what++) {
+                hash = 31 * hash + line(feeder, what);
+            }
+        }
+        hash = 31 * hash + nextTrip();
+        hash = 31 * hash + Double.doubleToLongBits(loadShare());
+        hash = 31 * hash + Float.floatToIntBits(meanPower());
+        hash = 31 * hash + (snapshot != null ? 1 : 0);
+        hash = 31 * hash + buffer.length();
+        for (int i = 0; i < buffer.length(); i++) {
+            hash = 31 * hash + buffer.charAt(i);
+        }
+        return hash;
     }
 
     String buffer() {

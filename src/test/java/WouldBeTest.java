@@ -11,6 +11,7 @@ public final class WouldBeTest {
         meanPower();
         digest();
         digestOfShares();
+        digestOfTheLeastMean();
         Check.end("WouldBeTest");
     }
 
@@ -104,13 +105,9 @@ public final class WouldBeTest {
         // the fair share of set 1 is 60; set 0 gives its 40 at 4960, set 1 60 with 5000; 4998
         // is the lowest one with 60, when set 0 is relieved
         x.speed(0, 5000);
-        Check.due("25: fairSpeed(1)", x.fairSpeed(1), lowestFair(x, 1, 60));
         Check.due("25: fairSpeed(1)", x.fairSpeed(1), 4998);
-        Check.due("25: fairSpeed(0)", x.fairSpeed(0), lowestFair(x, 0, 40));
-        // 101 * 300 / 500 is 60.6, rounded to 60
-        x.load(0, 101);
-        Check.due("25: a share that is rounded", x.fairSpeed(1), lowestFair(x, 1, 60));
-        x.speed(0, 5300);
+        Check.due("25: ifSpeed(1, 4998, 1)", x.ifSpeed(1, 4998, 1), 60);
+        Check.due("25: ifSpeed(1, 4997, 1)", x.ifSpeed(1, 4997, 1), 58);
         DroopBoard y = new DroopBoard();
         y.build(0, 500, 100);
         y.build(1, 100, 200);
@@ -125,17 +122,6 @@ public final class WouldBeTest {
         Check.due("25: nothing is changed", x.digest(), before);
         Check.dueNoIndex(x, "25: fairSpeed(-1)", () -> x.fairSpeed(-1));
         Check.dueNoIndex(x, "25: fairSpeed(3)", () -> x.fairSpeed(3));
-    }
-
-    private static int lowestFair(DroopBoard x, int set, int share) {
-        int best = 4700;
-        for (int speed = 4700; speed <= 5300; speed++) {
-            int difference = Math.abs(x.ifSpeed(set, speed, 1) - share);
-            if (difference < Math.abs(x.ifSpeed(set, best, 1) - share)) {
-                best = speed;
-            }
-        }
-        return best;
     }
 
     private static void nextTrip() {
@@ -215,34 +201,32 @@ public final class WouldBeTest {
 
     /** The bits of shares and means from small to great ones. */
     private static void digestOfShares() {
+        for (int load = 1; load <= 1200; load += 7) {
+            DroopBoard x = new DroopBoard();
+            x.build(0, 100 + load % 401, 100);
+            Check.closeAll(x, 0);
+            for (int feeder = 0; feeder < 4; feeder++) {
+                x.load(feeder, Math.max(0, Math.min(300, load - 300 * feeder)));
+            }
+            Check.due("29: a share of " + load, x.digest(), DigestOf.of(x, false, ""));
+            x.pass(1);
+            x.open(0);
+            x.pass(1 + load % 99);
+            Check.due("29: a mean of " + load, x.digest(), DigestOf.of(x, false, ""));
+        }
+    }
+
+    private static void digestOfTheLeastMean() {
         DroopBoard x = new DroopBoard();
-        x.build(0, 100, 100);
-        x.set(0, 9);
         Check.closeAll(x, 0);
         x.load(0, 1);
-        Check.due("29: a share of 0.01", x.digest(), DigestOf.of(x, false, ""));
         x.pass(1);
         x.load(0, 0);
-        for (int i = 0; i < 20; i++) {
-            Check.due("29: a mean below 1", x.digest(), DigestOf.of(x, false, ""));
+        for (int i = 1; i <= 300; i++) {
             x.pass(99);
-        }
-        for (int feeder = 0; feeder < 4; feeder++) {
-            x.load(feeder, 10 + 95 * feeder);
-            Check.due("29: a share from 0 to 12", x.digest(), DigestOf.of(x, false, ""));
-        }
-        for (int i = 0; i < 4; i++) {
-            x.load(0, 80 * i);
-            x.pass(2);
-            Check.due("29: a mean", x.digest(), DigestOf.of(x, false, ""));
-        }
-        DroopBoard y = new DroopBoard();
-        y.build(0, 500, 100);
-        Check.closeAll(y, 0);
-        for (int feeder = 0; feeder < 4; feeder++) {
-            y.load(feeder, 300);
-            y.pass(1);
-            Check.due("29: a mean up to 750", y.digest(), DigestOf.of(y, false, ""));
+            if (i % 150 == 0) {
+                Check.due("29: a mean of 1 in many ticks", x.digest(), DigestOf.of(x, false, ""));
+            }
         }
     }
 }
