@@ -51,6 +51,37 @@ public final class CallEdgesTest {
         Check.dueNoState(y, "goBack() of the other one", () -> y.goBack());
     }
 
+    /** The calls of two objects by turns: each has its own buffer, snapshot and saved states. */
+    static void promise1ObjectsShareNothingByTurns() {
+        DroopBoard x = new DroopBoard();
+        DroopBoard y = new DroopBoard();
+        x.load(0, 10);
+        y.load(0, 20);
+        x.keep();
+        y.load(0, 30);
+        y.keep();
+        Check.type(x, "r1;c1");
+        Check.type(y, "s2=5300");
+        Check.due("obey() of the one", x.obey(), 2);
+        Check.due("firstError() of the other", y.firstError(), 7);
+        Check.due("obey() of the other", y.obey(), 1);
+        Check.due("closed, of the one", x.diesel(1, 4), 1);
+        Check.due("closed, of the other", y.diesel(1, 4), 0);
+        Check.due("the speed of the one", x.diesel(2, 2), 5000);
+        Check.due("the speed of the other", y.diesel(2, 2), 5300);
+        Check.due("saved states of the one", x.count(11), 2);
+        Check.due("saved states of the other", y.count(11), 3);
+        x.load(0, 99);
+        x.goBack();
+        y.goBack();
+        Check.due("the load of the one in its snapshot", x.line(0, 0), 10);
+        Check.due("the load of the other in its snapshot", y.line(0, 0), 30);
+        Check.due("undo() of the one", x.undo(), 3);
+        Check.due("its load", x.line(0, 0), 99);
+        Check.due("undo() of the other", y.undo(), 3);
+        Check.due("its speed", y.diesel(2, 2), 5300);
+    }
+
     // ---- promise 2
 
     static void promise2RatingsFrom100To500() {

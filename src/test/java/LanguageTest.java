@@ -11,6 +11,7 @@ public final class LanguageTest {
         "^\\s*package\\b", "::", "[(,=]\\s*\\w+\\s*->", "\\)\\s*->", "\\bfinally\\b", "\\bsynchronized\\b",
         "\\bassert\\b", "\\bvolatile\\b", "\\bObject\\b", "\\bgetMessage\\b", "\\bstatic\\s*\\{", "Exact\\(",
         "(private|public|^)\\s+static\\s+(?!final)\\w+(\\[\\])?\\s+\\w+\\s*[=;]",
+        "static\\s+final\\s+\\w+(\\[\\])?\\s+\\w+\\s*=\\s*new\\b",
     };
 
     private static final String IMPORTS = "java\\.util\\.(ArrayList|List|Arrays|Iterator|NoSuchElementException)";
